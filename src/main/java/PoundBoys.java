@@ -30,7 +30,7 @@ public final class PoundBoys {
     private final boolean[] isKept = new boolean[KEEPS];
     private final Exchange exchange = new Exchange();
     private final Calendar calendar = new Calendar();
-    private final RingSearch ringSearch = new RingSearch();
+    private final RingSearch ringSearch = new RingSearch(folk, league);
     private final Folk ahead = new Folk();
     private final Folk aheadElse = new Folk();
     private final int[] otherRate = new int[MOST_TOWNS];
@@ -181,7 +181,7 @@ public final class PoundBoys {
         if (what != 0 && what != 1 && !isOfBoy) {
             return OUTSIDE;
         }
-        ringSearch.seek(folk, league);
+        ringSearch.seek();
         int size = ringSearch.bestSize;
         if (isOfBoy) {
             int i = what - FIRST_OF_RING;
@@ -898,12 +898,15 @@ public final class PoundBoys {
         final int[] best = new int[MOST_TOWNS];
         private final int[] row = new int[MOST_TOWNS];
         private final int[] worth = new int[MOST_BOYS];
-        private Folk folk;
-        private League league;
+        private final Folk folk;
+        private final League league;
 
-        void seek(Folk people, League towns) {
-            folk = people;
-            league = towns;
+        RingSearch(Folk folk, League league) {
+            this.folk = folk;
+            this.league = league;
+        }
+
+        void seek() {
             bestSize = 0;
             bestCheese = 0;
             for (int boy = 0; boy < folk.boys; boy++) {

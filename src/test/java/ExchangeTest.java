@@ -13,6 +13,7 @@ public final class ExchangeTest {
         dealOfMany();
         ringOfLeastCheese();
         ringByFirstRow();
+        ringHasATownOnce();
         ringThatBeginsAnother();
         ringOfAll();
         noRing();
@@ -187,6 +188,13 @@ public final class ExchangeTest {
         ringIs(x, 0, 2, 0);
         Check.tell(x, "league 4;want 2 1;want 3 0;want 0 1;want 1 0;plain 2 9 0 0;plain 3 9 1 0;plain 0 9 0 0;plain 1 9 1 0");
         ringIs(x, 0, 0, 1);
+        Check.tell(x, "league 2;want 0 1;want 1 0;plain 0 10 0 0;plain 0 10 0 0;plain 1 20 1 0");
+        ringIs(x, 10, 0, 2);
+    }
+
+    private static void ringHasATownOnce() {
+        PoundBoys x = Check.told("want 0 1;want 1 0;want 2 0;plain 0 9 0 0;plain 1 9 0 0;plain 2 9 0 0;plain 1 9 1 0");
+        ringIs(x, 0, 0, 2, 3);
     }
 
     private static void ringThatBeginsAnother() {

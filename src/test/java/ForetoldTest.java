@@ -169,6 +169,7 @@ public final class ForetoldTest {
         PoundBoys x = Check.told("town 1 0 5 1;plain 1 10 0 0");
         due("a rate that falls", 2, x.gainers(1, 4, 1));
         due("a rate that grows", 4, x.gainers(1, 6, 1));
+        due("the rate of the last town", 1, x.gainers(2, 6, 2));
         x.go(1);
         due("from now on: he is elsewhere", 0, x.gainers(1, 1, 2));
         due("from now on, and comes back", 2, x.gainers(1, 1, 3));

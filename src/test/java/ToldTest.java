@@ -149,6 +149,12 @@ public final class ToldTest {
         faultIs("light;", 6);
         faultIs("light;;light", 6);
         faultIs("lights", 0);
+        faultIs("lightz", 0);
+        faultIs("xight", 0);
+        faultIs("light`", 5);
+        faultIs("light{", 5);
+        faultIs("slack 1/", 7);
+        faultIs("slack 1:", 7);
         faultIs("ligh", 0);
         faultIs("Light", 0);
         faultIs("lighT", 0);
@@ -330,6 +336,9 @@ public final class ToldTest {
         due("no cheese", MORE, x.town(1, 5));
         due("nothing is kept", NOT, x.back(0));
         due("nothing is kept", NOT, x.back(1));
+        due("give", 1, x.give(0, 1));
+        Check.tell(x, "slack 5");
+        due("no exchange is told", 0, x.count(4));
     }
 
     private static void town() {
