@@ -11,6 +11,7 @@ public final class LeagueBoundsTest {
         closesBySlackOfOneTown();
         closesByTheMostSlack();
         cheeseIsBalanceLess();
+        dealOfSixTowns();
         weightHasItsBounds();
         gradesOfACraft();
         gradesOfAnotherCraft();
@@ -36,6 +37,7 @@ public final class LeagueBoundsTest {
         twelveOnTheScales();
         roadByWeight();
         roadOfUnlikeBoys();
+        fiveHundredAndTwelveCalls();
         Check.end();
     }
 
@@ -159,6 +161,19 @@ public final class LeagueBoundsTest {
             due("deal() " + i, 2, x.deal());
             due("cheese of 0 behind deal " + i, MORE + cheese[i], x.town(0, 5));
             due("cheese of 1 behind deal " + i, MORE - cheese[i], x.town(1, 5));
+        }
+    }
+
+    private static void dealOfSixTowns() {
+        PoundBoys x = Check.told("league 6;slack 9;plain 0 9 0 0;plain 1 8 0 0;plain 2 7 0 0;plain 3 6 0 0;plain 4 5 0 0;plain 5 4 0 0");
+        for (int boy = 0; boy < 6; boy++) {
+            due("give", boy + 1, x.give(boy, (boy + 1) % 6));
+        }
+        due("deal()", 6, x.deal());
+        int[] cheese = {5, -1, -1, -1, -1, -1};
+        for (int town = 0; town < 6; town++) {
+            due("cheese of " + town, MORE + cheese[town], x.town(town, 5));
+            due("town of " + town, (town + 1) % 6, x.boy(town, 1));
         }
     }
 
@@ -615,5 +630,28 @@ public final class LeagueBoundsTest {
         due("a seventh", FULL, six.road(9, 0));
         due("six for six", 720, six.who(NONE));
         due("the sixth can be any", 63, six.who(5));
+    }
+
+    /** "An object is used for at most 512 calls": all of them are answered as the first ones are. */
+    private static void fiveHundredAndTwelveCalls() {
+        PoundBoys x = new PoundBoys();
+        due("write", 8, x.write(Check.packed("none;ple"), 8));
+        due("fault()", 5, x.fault());
+        due("erase()", 8, x.erase());
+        due("write", 8, x.write(Check.packed("fool 1 7"), 8));
+        due("write", 12, x.write(Check.packed(" 0 0"), 4));
+        due("league()", 1, x.league());
+        for (int i = 0; i < 63; i++) {
+            due("give()", 1, x.give(0, 2));
+            due("drop()", 1, x.drop());
+            due("weigh()", 1, x.weigh(0, 0, i));
+            due("forget()", 1, x.forget());
+            due("road()", 1, x.road(7, 0));
+            due("who(0)", 1, x.who(0));
+            due("arrive()", 1, x.arrive());
+            due("keep()", 0, x.keep(i & 1));
+        }
+        due("call 511", 1, x.go(1));
+        due("call 512", 2, x.boy(0, 1));
     }
 }
