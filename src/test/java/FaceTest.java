@@ -114,5 +114,19 @@ public final class FaceTest {
             Check.due("the source has " + what, 0, m.find() ? 1 : 0);
         }
         Check.due("signs beyond 127", 0, source.chars().filter(c -> c > 127).count());
+        rows(code);
+    }
+
+    /** All calls of a run live in one room: rows are made as an object's fields are, none by a call. */
+    private static void rows(String code) {
+        Pattern field = Pattern.compile(" +(private )?final [\\w\\[\\]]+ \\w+ = \\{?new .*;");
+        int made = 0;
+        for (String line : code.split("\n")) {
+            if (Pattern.compile("\\bnew\\b|\\bclone\\(|\\bcopyOf").matcher(line).find()) {
+                made++;
+                Check.due("made by a call: " + line.trim(), 1, field.matcher(line).matches() ? 1 : 0);
+            }
+        }
+        Check.due("rows are looked at", 1, made > 20 ? 1 : 0);
     }
 }
